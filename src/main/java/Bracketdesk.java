@@ -33,7 +33,8 @@ public final class Bracketdesk {
     private static final int BRACKET_WORD = 5;
     private static final int SIGN_WORD = 6;
 
-    // what the tree asks of a WORD: its sign, if it is a BRACKET or a SIGN WORD of one, or one of these
+    // SORTS of WORDS, by which the tree tells them apart: of a BRACKET and of a SIGN WORD of one sign that
+    // sign, of each other WORD one of these (which are below all signs that can be SORTS)
     private static final int NO_MORE = 0;
     private static final int SOME_NAME = 1;
     private static final int SOME_NUMBER = 2;
@@ -119,7 +120,7 @@ public final class Bracketdesk {
     private int knocks;
 
     public Bracketdesk() {
-        now.readAll();
+        now.read();
     }
 
     // ---- typing
@@ -279,7 +280,7 @@ public final class Bracketdesk {
         if (next.script.isTooLong() || history.isFull()) {
             return REFUSED;
         }
-        next.readAll();
+        next.read();
         become();
         return others;
     }
@@ -294,13 +295,14 @@ public final class Bracketdesk {
             return REFUSED;
         }
         int declaring = now.names.word.get(thing);
+        int users = now.names.users.get(thing);
         int sign = signOf(name);
         if (now.words.size(declaring) == 1 && now.script.sign(now.words.start.get(declaring)) == sign) {
             return 0;
         }
         changes.draftRename(now, next.script, thing, sign);
         int refusal = tryOut(true);
-        return refusal == 0 ? now.names.users.get(thing) : refusal;
+        return refusal == 0 ? users : refusal;
     }
 
     public int draw(int word, int name, boolean isGreat) throws IndexOutOfBoundsException, IllegalArgumentException {
@@ -326,7 +328,7 @@ public final class Bracketdesk {
         }
         int let = now.names.node.get(thing);
         changes.draftPutIn(now, next.script, let, use, false);
-        next.readAll();
+        next.read();
         if (!changes.isNodeStill(now, next, let + 1)) {
             changes.draftPutIn(now, next.script, let, use, true);
         }
@@ -359,7 +361,7 @@ public final class Bracketdesk {
             changes.draftWithout(left, typed, let);
             next.script.clear();
             next.script.copy(typed, 0, typed.size());
-            next.readAll();
+            next.read();
             left = next;
             gone++;
         }
@@ -414,7 +416,7 @@ public final class Bracketdesk {
             case 1: return now.words.countIn(line);
             case 2: return now.words.lineState.get(line);
             case 3: return pins.isHidden(line) ? 1 : 0;
-            case 4: return pins.foldFrom(line);
+            case 4: return pins.foldEnd(line);
             case 5: return pins.dirty.get(line);
             case 6: return now.blanks(line);
             default: throw new IllegalArgumentException();
@@ -589,7 +591,7 @@ public final class Bracketdesk {
         next.script.copy(now.script, 0, now.script.size());
         next.words.read(next.script);
         return now.words.isLike(next.words)
-            && now.tree.isWhole(now.parser.tokens.size())
+            && now.tree.isWhole(now.parser.count)
             && now.words.hasFaithfulPartners()
             && now.names.areRight()
             && pins.areWithin(now.script.size(), now.words.lines())
@@ -618,7 +620,8 @@ public final class Bracketdesk {
             d = d * 31 + pins.marks.get(i);
         }
         for (int i = 0; i < SHAPES; i++) {
-            d = d * 31 + find(i, 0);
+            int shaped = changes.shaped(now, i, 0);
+            d = d * 31 + (shaped == NONE ? NONE : now.firstWord(shaped));
         }
         return d * 31 + (isSound() ? 1 : 0);
     }
@@ -753,53 +756,42 @@ public final class Bracketdesk {
     }
 
     private int perform(int act, int which) {
-        typed.clear();
-        switch (act) {
-            case KEY:
-                typed.add(signOf(which), NONE);
-                return typeAtCursors();
-            case SAY:
-                typed.write(pieceOf(which));
-                return typeAtCursors();
-            case ERASE:
-                return eraseAtCursors();
-            default:
-                pins.travel(now.words, now.script.size(), which);
-                return pins.cursors.size();
+        if (act == GO) {
+            pins.travel(now.words, now.script.size(), which);
+            return pins.cursors.size();
         }
-    }
-
-    private int typeAtCursors() {
-        int cursors = pins.cursors.size();
-        int ends = now.script.lineEnds() + cursors * typed.lineEnds();
-        int size = now.script.size() + cursors * typed.size();
-        if (size > MOST_SIGNS || ends >= MOST_LINES || history.isFull()) {
-            return REFUSED;
-        }
-        pins.readAgain = 0;
-        for (int i = cursors - 1; i >= 0; i--) {
-            int place = pins.cursors.get(i);
-            replace(place, place);
-        }
-        finish();
-        return now.script.size();
-    }
-
-    private int eraseAtCursors() {
-        places.become(pins.cursors);
-        int gone = places.get(0) == 0 ? places.size() - 1 : places.size();
-        if (gone == 0) {
+        fillTyped(act, which);
+        int back = act == ERASE ? 1 : 0;
+        int edits = pins.cursorsFrom(back);
+        if (edits == 0) {
             return 0;
         }
-        if (history.isFull()) {
+        if (history.isFull() || isTooMuch(edits, typed.size() - back)) {
             return REFUSED;
         }
+        places.become(pins.cursors);
         pins.readAgain = 0;
-        for (int i = places.size() - 1; i >= places.size() - gone; i--) {
-            replace(places.get(i) - 1, places.get(i));
+        for (int i = places.size() - 1; i >= places.size() - edits; i--) {
+            replace(places.get(i) - back, places.get(i));
         }
-        finish();
-        return gone;
+        now.read();
+        history.keep(now.script);
+        runner.forget();
+        return act == ERASE ? edits : now.script.size();
+    }
+
+    private void fillTyped(int act, int which) {
+        typed.clear();
+        if (act == KEY) {
+            typed.add(signOf(which), NONE);
+        } else if (act == SAY) {
+            typed.write(pieceOf(which));
+        }
+    }
+
+    private boolean isTooMuch(int edits, int more) {
+        return now.script.size() + edits * more > MOST_SIGNS
+            || now.script.lineEnds() + edits * typed.lineEnds() >= MOST_LINES;
     }
 
     /** One REPLACEMENT: what is typed instead of the signs between two places. */
@@ -819,12 +811,6 @@ public final class Bracketdesk {
         Reading old = now;
         now = next;
         next = old;
-    }
-
-    private void finish() {
-        now.readTree();
-        history.keep(now.script);
-        runner.forget();
     }
 
     /** One REPLACEMENT of all signs that differ, by the next reading, which is read whole. */
@@ -855,7 +841,7 @@ public final class Bracketdesk {
             return REFUSED;
         }
         history.load(state, next.script);
-        next.readAll();
+        next.read();
         replaceAll();
         history.state = state;
         return state;
@@ -866,7 +852,7 @@ public final class Bracketdesk {
         if (next.script.isTooLong() || history.isFull()) {
             return REFUSED;
         }
-        next.readAll();
+        next.read();
         int word = mustKeep ? changes.firstLost(now, next) : NONE;
         if (word != NONE) {
             return LOST - word;
@@ -1313,28 +1299,28 @@ public final class Bracketdesk {
         private int readWord(Script script, int from, int to) {
             int sign = script.sign(from);
             int place = from + 1;
-            int asked = sign;
+            int wordSort = sign;
             if (isLetter(sign)) {
                 while (place < to && isLetterOrDigit(script.sign(place))) {
                     place++;
                 }
-                asked = nameOrKeyword(script, from, place);
+                wordSort = nameOrKeyword(script, from, place);
             } else if (isDigit(sign)) {
                 while (place < to && isDigit(script.sign(place))) {
                     place++;
                 }
-                asked = SOME_NUMBER;
+                wordSort = SOME_NUMBER;
             } else if (sign == '\'') {
                 while (place < to && script.sign(place) != '\'') {
                     place++;
                 }
                 place = place < to ? place + 1 : to;
-                asked = SOME_TEXT;
+                wordSort = SOME_TEXT;
             } else if (isPair(script, from, to, '=', '=')) {
                 place++;
-                asked = SAME_SIGN;
+                wordSort = SAME_SIGN;
             }
-            addWord(asked, from, place);
+            addWord(wordSort, from, place);
             return place;
         }
 
@@ -1358,11 +1344,11 @@ public final class Bracketdesk {
             }
         }
 
-        private void addWord(int asked, int from, int to) {
+        private void addWord(int wordSort, int from, int to) {
             start.add(from);
             end.add(to);
             line.add(lineStart.size() - 1);
-            sort.add(asked);
+            sort.add(wordSort);
             partner.add(NONE);
         }
 
@@ -1415,7 +1401,8 @@ public final class Bracketdesk {
 
     /** Takes the WORDS that are no COMMENTS one by one, and makes NODES and FAULTS of them. */
     private static final class Parser {
-        // the WORDS that are no COMMENTS: their numbers, and what is asked of them
+        // the WORDS that are no COMMENTS: their numbers and SORTS; behind the last one the number
+        // of WORDS, and NO_MORE
         final Row tokens = new Row(64);
         final Row sorts = new Row(64);
         // the NODES in the order in which they are made: a BINARY only behind its first part
@@ -1432,21 +1419,23 @@ public final class Bracketdesk {
         final Row declaredBy = new Row(16);
         // of each WORD, and behind the last one, a bit for each KIND of FAULT there
         final Row faults = new Row(64);
-        private int words;
+        int count;
         private int next;
 
-        void read(Words source) {
+        void read(Words words) {
             clear();
-            words = source.count();
-            for (int i = 0; i < words; i++) {
-                if (source.sort.get(i) != SOME_COMMENT) {
+            for (int i = 0; i < words.count(); i++) {
+                if (words.sort.get(i) != SOME_COMMENT) {
                     tokens.add(i);
-                    sorts.add(source.sort.get(i));
+                    sorts.add(words.sort.get(i));
                 }
             }
-            faults.fill(words + 1, 0);
+            count = tokens.size();
+            tokens.add(words.count());
+            sorts.add(NO_MORE);
+            faults.fill(words.count() + 1, 0);
             int program = make(PROGRAM);
-            for (int i = 0; i < tokens.size() && next < tokens.size(); i++) {
+            for (int i = 0; i < count && next < count; i++) {
                 hang(program, statement(0));
             }
             to.set(program, next);
@@ -1466,11 +1455,6 @@ public final class Bracketdesk {
             declaredKind.clear();
             declaredBy.clear();
             next = 0;
-        }
-
-        /** The number of the WORD that a token is; the number of WORDS, if it is none. */
-        int wordOf(int token) {
-            return token >= 0 && token < tokens.size() ? tokens.get(token) : words;
         }
 
         void blame(int word, int fault) {
@@ -1501,17 +1485,18 @@ public final class Bracketdesk {
             if (sorts.get(next) == sort) {
                 next++;
             } else {
-                blame(wordOf(next), fault);
+                int word = tokens.get(next);
+                faults.set(word, faults.get(word) | 1 << fault);
             }
         }
 
+        /** Marks the next WORD as that which declares a THING, if it is a NAME. */
         private void declare(int thingKind, int node) {
             if (sorts.get(next) == SOME_NAME) {
-                declared.add(wordOf(next));
+                declared.add(tokens.get(next));
                 declaredKind.add(thingKind);
                 declaredBy.add(node);
             }
-            need(SOME_NAME, NEED_NAME);
         }
 
         private int kindOfStatement() {
@@ -1536,28 +1521,29 @@ public final class Bracketdesk {
             if (sorts.get(next) == '{' && blocks < MOST_BLOCKS) {
                 return block(blocks);
             }
-            int node = make(kindOfStatement());
-            int sort = kind.get(node);
-            if (sort == STRAY) {
-                blame(wordOf(next), NO_STATEMENT);
+            int made = kindOfStatement();
+            int node = make(made);
+            if (made == STRAY) {
+                blame(tokens.get(next), NO_STATEMENT);
             }
-            next += sort == DOES ? 0 : sort == SET ? 2 : 1;
-            if (sort == LET) {
+            next += made == DOES ? 0 : made == SET ? 2 : 1;
+            if (made == LET) {
                 declare(VARIABLE, node);
+                need(SOME_NAME, NEED_NAME);
                 need('=', NEED_EQUAL);
-            } else if (sort == FUN) {
+            } else if (made == FUN) {
                 parameters(node);
             }
-            if (sort != FUN && sort != STRAY) {
+            if (made != FUN && made != STRAY) {
                 hang(node, joined(0, 0));
             }
-            if (sort == IF || sort == DO || sort == FUN) {
+            if (made == IF || made == DO || made == FUN) {
                 hang(node, block(blocks));
-                if (sort == IF && sorts.get(next) == WORD_ELSE) {
+                if (made == IF && sorts.get(next) == WORD_ELSE) {
                     next++;
                     hang(node, block(blocks));
                 }
-            } else if (sort != STRAY) {
+            } else if (made != STRAY) {
                 need(';', NEED_SEMICOLON);
             }
             to.set(node, next);
@@ -1566,12 +1552,15 @@ public final class Bracketdesk {
 
         private void parameters(int node) {
             declare(FUNCTION, node);
+            need(SOME_NAME, NEED_NAME);
             need('(', NEED_BRACKET);
             if (sorts.get(next) == SOME_NAME) {
                 declare(PARAMETER, node);
-                for (int i = 0; i < tokens.size() && sorts.get(next) == ','; i++) {
+                next++;
+                for (int i = 0; i < count && sorts.get(next) == ','; i++) {
                     next++;
                     declare(PARAMETER, node);
+                    need(SOME_NAME, NEED_NAME);
                 }
             }
             need(')', NEED_BRACKET_END);
@@ -1580,11 +1569,11 @@ public final class Bracketdesk {
         private int block(int blocks) {
             int node = make(BLOCK);
             if (sorts.get(next) != '{' || blocks >= MOST_BLOCKS) {
-                blame(wordOf(next), NEED_BLOCK);
+                blame(tokens.get(next), NEED_BLOCK);
                 return node;
             }
             next++;
-            for (int i = 0; i < tokens.size() && next < tokens.size() && sorts.get(next) != '}'; i++) {
+            for (int i = 0; i < count && next < count && sorts.get(next) != '}'; i++) {
                 hang(node, statement(blocks + 1));
             }
             lacksEnd.set(node, sorts.get(next) == '}' ? 0 : 1);
@@ -1607,7 +1596,7 @@ public final class Bracketdesk {
                 return one(ones);
             }
             int first = joined(level + 1, ones);
-            for (int i = 0; i < tokens.size() && joins(level, sorts.get(next)); i++) {
+            for (int i = 0; i < count && joins(level, sorts.get(next)); i++) {
                 int node = make(BINARY);
                 from.set(node, from.get(first));
                 next++;
@@ -1632,25 +1621,25 @@ public final class Bracketdesk {
         }
 
         private int one(int ones) {
-            int node = make(ones < MOST_ONES ? kindOfOne() : MISSING);
-            int sort = kind.get(node);
-            if (sort == MISSING) {
-                blame(wordOf(next), NO_EXPR);
+            int made = ones < MOST_ONES ? kindOfOne() : MISSING;
+            int node = make(made);
+            if (made == MISSING) {
+                blame(tokens.get(next), NO_EXPR);
                 return node;
             }
-            next += sort == CALL ? 2 : 1;
-            if (sort == UNARY) {
+            next += made == CALL ? 2 : 1;
+            if (made == UNARY) {
                 hang(node, one(ones + 1));
-            } else if (sort == BRACKETS) {
+            } else if (made == BRACKETS) {
                 hang(node, joined(0, ones + 1));
-            } else if (sort == CALL && sorts.get(next) != ')') {
+            } else if (made == CALL && sorts.get(next) != ')') {
                 hang(node, joined(0, ones + 1));
-                for (int i = 0; i < tokens.size() && sorts.get(next) == ','; i++) {
+                for (int i = 0; i < count && sorts.get(next) == ','; i++) {
                     next++;
                     hang(node, joined(0, ones + 1));
                 }
             }
-            if (sort == CALL || sort == BRACKETS) {
+            if (made == CALL || made == BRACKETS) {
                 need(')', NEED_BRACKET_END);
             }
             to.set(node, next);
@@ -1729,15 +1718,15 @@ public final class Bracketdesk {
         }
 
         boolean isScope(int node) {
-            int sort = kind.get(node);
-            return sort == PROGRAM || sort == BLOCK || sort == FUN;
+            int nodeKind = kind.get(node);
+            return nodeKind == PROGRAM || nodeKind == BLOCK || nodeKind == FUN;
         }
 
         /** The innermost NODE of a KIND that a NODE is in. */
-        int above(int node, int sort) {
+        int above(int node, int nodeKind) {
             int n = up.get(node);
             for (int i = 0; i < kind.size() && n != NONE; i++) {
-                if (kind.get(n) == sort) {
+                if (kind.get(n) == nodeKind) {
                     return n;
                 }
                 n = up.get(n);
@@ -1745,12 +1734,12 @@ public final class Bracketdesk {
             return NONE;
         }
 
-        int countAbove(int node, int sort) {
+        int countAbove(int node, int nodeKind) {
             int count = 0;
-            int n = above(node, sort);
+            int n = above(node, nodeKind);
             for (int i = 0; i < kind.size() && n != NONE; i++) {
                 count++;
-                n = above(n, sort);
+                n = above(n, nodeKind);
             }
             return count;
         }
@@ -1820,13 +1809,14 @@ public final class Bracketdesk {
 
         void read(Reading reading) {
             findSameNames(reading.words, reading.script);
+            meaning.fill(reading.words.count(), NONE);
             listThings(reading.parser, reading.tree);
             for (int n = 0; n < reading.tree.kind.size(); n++) {
-                int sort = reading.tree.kind.get(n);
-                if (sort == SET || sort == USE || sort == CALL) {
+                int nodeKind = reading.tree.kind.get(n);
+                if (nodeKind == SET || nodeKind == USE || nodeKind == CALL) {
                     findMeaning(reading, n);
                     blameName(reading, n);
-                } else if (sort == RET && reading.tree.above(n, FUN) == NONE) {
+                } else if (nodeKind == RET && reading.tree.above(n, FUN) == NONE) {
                     reading.parser.blame(reading.firstWord(n), OUTSIDE);
                 }
             }
@@ -1841,14 +1831,21 @@ public final class Bracketdesk {
         private void findSameNames(Words words, Script script) {
             sameName.fill(words.count(), NONE);
             for (int i = 0; i < words.count(); i++) {
-                for (int k = 0; k <= i && words.sort.get(i) == SOME_NAME && sameName.get(i) == NONE; k++) {
-                    if (words.sort.get(k) == SOME_NAME && script.isAlike(
-                            words.start.get(k), words.end.get(k), words.start.get(i), words.end.get(i))) {
-                        sameName.set(i, k);
-                    }
+                if (words.sort.get(i) == SOME_NAME) {
+                    sameName.set(i, firstAlike(words, script, i));
                 }
             }
-            meaning.fill(words.count(), NONE);
+        }
+
+        private int firstAlike(Words words, Script script, int word) {
+            int from = words.start.get(word);
+            int to = words.end.get(word);
+            for (int i = 0; i < word; i++) {
+                if (sameName.get(i) == i && script.isAlike(words.start.get(i), words.end.get(i), from, to)) {
+                    return i;
+                }
+            }
+            return word;
         }
 
         private void listThings(Parser parser, Tree tree) {
@@ -1879,10 +1876,10 @@ public final class Bracketdesk {
             int scope = reading.tree.scopeAbove(user);
             int thing = NONE;
             for (int i = 0; i < reading.tree.kind.size() && scope != NONE && thing == NONE; i++) {
-                thing = meantIn(scope, reading.tree, sameName.get(reading.parser.wordOf(token)), token);
+                thing = meantIn(scope, reading.tree, sameName.get(reading.parser.tokens.get(token)), token);
                 scope = reading.tree.scopeAbove(scope);
             }
-            meaning.set(reading.parser.wordOf(token), thing);
+            meaning.set(reading.parser.tokens.get(token), thing);
         }
 
         private int meantIn(int scope, Tree tree, int name, int token) {
@@ -1891,12 +1888,12 @@ public final class Bracketdesk {
             int function = NONE;
             for (int t = 0; t < kind.size(); t++) {
                 if (sameName.get(word.get(t)) == name && standsIn(tree, t, scope)) {
-                    int sort = kind.get(t);
-                    if (sort == VARIABLE && tree.to.get(node.get(t)) <= token) {
+                    int thingKind = kind.get(t);
+                    if (thingKind == VARIABLE && tree.to.get(node.get(t)) <= token) {
                         variable = t;
-                    } else if (sort == PARAMETER) {
+                    } else if (thingKind == PARAMETER) {
                         parameter = t;
-                    } else if (sort == FUNCTION && function == NONE) {
+                    } else if (thingKind == FUNCTION && function == NONE) {
                         function = t;
                     }
                 }
@@ -2017,12 +2014,8 @@ public final class Bracketdesk {
         final Row faultWords = new Row(16);
         final Row faultKinds = new Row(16);
 
-        void readAll() {
+        void read() {
             words.read(script);
-            readTree();
-        }
-
-        void readTree() {
             parser.read(words);
             tree.read(parser);
             names.read(this);
@@ -2094,11 +2087,11 @@ public final class Bracketdesk {
         }
 
         int firstWord(int node) {
-            return parser.wordOf(tree.from.get(node));
+            return parser.tokens.get(tree.from.get(node));
         }
 
         int lastWord(int node) {
-            return parser.wordOf(tree.to.get(node) - 1);
+            return parser.tokens.get(tree.to.get(node) - 1);
         }
 
         int firstSign(int node) {
@@ -2120,9 +2113,9 @@ public final class Bracketdesk {
                 && (tree.lacksEnd.get(block) == 1 || lastWord(scope) >= word);
         }
 
-        boolean isWord(int token, int other) {
-            int word = parser.wordOf(token);
-            int like = parser.wordOf(other);
+        boolean areSameWords(int token, int other) {
+            int word = parser.tokens.get(token);
+            int like = parser.tokens.get(other);
             return script.isAlike(words.start.get(word), words.end.get(word), words.start.get(like), words.end.get(like));
         }
 
@@ -2133,7 +2126,7 @@ public final class Bracketdesk {
             int kid = 1;
             for (int i = 0; i < tree.kids.get(0); i++) {
                 for (int token = tree.from.get(kid); token < tree.to.get(kid); token++) {
-                    int word = parser.wordOf(token);
+                    int word = parser.tokens.get(token);
                     for (int place = words.start.get(word); place < words.end.get(word); place++) {
                         signs.add(script.sign(place));
                     }
@@ -2165,6 +2158,17 @@ public final class Bracketdesk {
 
         int first() {
             return cursors.get(0);
+        }
+
+        /** How many CURSORS are at a PLACE or behind it. */
+        int cursorsFrom(int place) {
+            int count = 0;
+            for (int i = 0; i < cursors.size(); i++) {
+                if (cursors.get(i) >= place) {
+                    count++;
+                }
+            }
+            return count;
         }
 
         void set(int place) {
@@ -2326,7 +2330,7 @@ public final class Bracketdesk {
         }
 
         /** The later LINE of the FOLD from a LINE. */
-        int foldFrom(int line) {
+        int foldEnd(int line) {
             for (int i = 0; i < foldFrom.size(); i++) {
                 if (foldFrom.get(i) == line) {
                     return foldTo.get(i);
@@ -2474,7 +2478,6 @@ public final class Bracketdesk {
         private final Row frameCall = new Row(MOST_CALLS + 1);
         private final Row frameBase = new Row(MOST_CALLS + 1);
         private final Row slots = new Row(64);
-        private Reading reading;
         int steps;
         boolean isCut;
         private boolean isDone;
@@ -2486,12 +2489,11 @@ public final class Bracketdesk {
             isDone = false;
         }
 
-        void execute(Reading source) {
+        void execute(Reading reading) {
             if (isDone) {
                 return;
             }
             isDone = true;
-            reading = source;
             outs.clear();
             values.clear();
             frameFun.clear();
@@ -2500,21 +2502,21 @@ public final class Bracketdesk {
             slots.clear();
             steps = 0;
             isCut = false;
-            addFrame(0, 0, 0);
+            addFrame(reading, 0, 0, 0);
             node = 0;
             way = INTO;
             for (int i = 0; i < MOST_MOVES && node != NONE && !isCut; i++) {
                 if (way == INTO) {
-                    enter();
+                    enter(reading);
                 } else if (way == OUT_OF) {
-                    leave();
+                    leave(reading);
                 } else {
-                    pass();
+                    pass(reading.tree);
                 }
             }
         }
 
-        private void addFrame(int fun, int call, int base) {
+        private void addFrame(Reading reading, int fun, int call, int base) {
             frameFun.add(fun);
             frameCall.add(call);
             frameBase.add(base);
@@ -2525,7 +2527,7 @@ public final class Bracketdesk {
             }
         }
 
-        private int slotOf(int thing) {
+        private int slotOf(Reading reading, int thing) {
             int home = reading.names.home.get(thing);
             int frame = frameFun.size() - 1;
             while (frame > 0 && frameFun.get(frame) != home) {
@@ -2542,7 +2544,7 @@ public final class Bracketdesk {
             }
         }
 
-        private void enter() {
+        private void enter(Reading reading) {
             int kind = reading.tree.kind.get(node);
             if (kind == CALL && frameFun.size() > MOST_CALLS) {
                 isCut = true;
@@ -2556,15 +2558,15 @@ public final class Bracketdesk {
             }
         }
 
-        private void leave() {
+        private void leave(Reading reading) {
             int kind = reading.tree.kind.get(node);
             way = PAST;
             switch (kind) {
                 case LET:
-                    store(reading.tree.from.get(node) + 1);
+                    store(reading, reading.tree.from.get(node) + 1);
                     break;
                 case SET:
-                    store(reading.tree.from.get(node));
+                    store(reading, reading.tree.from.get(node));
                     break;
                 case OUT:
                     outs.add(values.pop());
@@ -2576,32 +2578,32 @@ public final class Bracketdesk {
                     giveBack(values.pop());
                     break;
                 case BINARY:
-                    joinValues();
+                    joinValues(reading);
                     break;
                 case UNARY:
-                    turnValue();
+                    turnValue(reading);
                     break;
                 case NUMBER:
                 case TEXT:
                     values.add(reading.value(reading.firstWord(node)));
                     break;
                 case USE:
-                    values.add(slots.get(slotOf(reading.names.meaning.get(reading.firstWord(node)))));
+                    values.add(slots.get(slotOf(reading, reading.names.meaning.get(reading.firstWord(node)))));
                     break;
                 case CALL:
-                    beginCall();
+                    beginCall(reading);
                     break;
                 default:
                     break;
             }
         }
 
-        private void store(int name) {
-            int thing = reading.names.meaning.get(reading.parser.wordOf(name));
-            slots.set(slotOf(thing), values.pop());
+        private void store(Reading reading, int name) {
+            int thing = reading.names.meaning.get(reading.parser.tokens.get(name));
+            slots.set(slotOf(reading, thing), values.pop());
         }
 
-        private void joinValues() {
+        private void joinValues(Reading reading) {
             int right = values.pop();
             int left = values.pop();
             int sign = reading.parser.sorts.get(reading.tree.to.get(node + 1));
@@ -2614,21 +2616,21 @@ public final class Bracketdesk {
             }
         }
 
-        private void turnValue() {
+        private void turnValue(Reading reading) {
             int value = values.pop();
             boolean isMinus = reading.parser.sorts.get(reading.tree.from.get(node)) == '-';
             values.add(isMinus ? -value : value == 0 ? 1 : 0);
         }
 
-        private void beginCall() {
+        private void beginCall(Reading reading) {
             Names names = reading.names;
             int fun = names.node.get(names.meaning.get(reading.firstWord(node)));
             int base = values.size() - reading.tree.kids.get(node);
-            addFrame(fun, node, base);
+            addFrame(reading, fun, node, base);
             int next = base;
             for (int t = 0; t < names.kind.size(); t++) {
                 if (names.kind.get(t) == PARAMETER && names.node.get(t) == fun) {
-                    slots.set(slotOf(t), values.get(next));
+                    slots.set(slotOf(reading, t), values.get(next));
                     next++;
                 }
             }
@@ -2647,30 +2649,25 @@ public final class Bracketdesk {
         }
 
         /** Goes on behind a NODE, by the NODE that it is in. */
-        private void pass() {
-            Tree tree = reading.tree;
+        private void pass(Tree tree) {
             int up = tree.up.get(node);
-            int behind = tree.past.get(node);
-            boolean isFirst = node == up + 1;
-            int kind = tree.kind.get(up);
-            boolean isGoingOn = up != NONE && behind < tree.past.get(up);
-            if (up != NONE && kind == FUN) {
+            int kind = up == NONE ? PROGRAM : tree.kind.get(up);
+            int end = up == NONE ? NONE : tree.past.get(up);
+            if (kind == FUN) {
                 giveBack(0);
                 return;
             }
-            if (up != NONE && isFirst && (kind == IF || kind == DO)) {
-                boolean isSo = values.pop() != 0;
-                if (!isSo) {
-                    behind = tree.past.get(behind);
-                    isGoingOn = behind < tree.past.get(up);
-                }
-            } else if (up != NONE && kind == IF) {
-                isGoingOn = false;
-            } else if (up != NONE && kind == DO) {
-                behind = up + 1;
-                isGoingOn = true;
+            int onward = tree.past.get(node);
+            boolean isCondition = (kind == IF || kind == DO) && node == up + 1;
+            if (isCondition && values.pop() == 0) {
+                onward = tree.past.get(onward);
+            } else if (kind == IF && !isCondition) {
+                onward = end;
+            } else if (kind == DO && !isCondition) {
+                onward = up + 1;
             }
-            node = isGoingOn ? behind : up;
+            boolean isGoingOn = onward < end;
+            node = isGoingOn ? onward : up;
             way = isGoingOn ? INTO : OUT_OF;
         }
     }
@@ -2944,7 +2941,7 @@ public final class Bracketdesk {
                 return false;
             }
             for (int i = 0; i < tree.length(left); i++) {
-                if (!reading.isWord(tree.from.get(left) + i, tree.from.get(right) + i)) {
+                if (!reading.areSameWords(tree.from.get(left) + i, tree.from.get(right) + i)) {
                     return false;
                 }
             }
