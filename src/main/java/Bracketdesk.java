@@ -2116,7 +2116,8 @@ public final class Bracketdesk {
         boolean areSameWords(int token, int other) {
             int word = parser.tokens.get(token);
             int like = parser.tokens.get(other);
-            return script.isAlike(words.start.get(word), words.end.get(word), words.start.get(like), words.end.get(like));
+            return script.isAlike(
+                words.start.get(word), words.end.get(word), words.start.get(like), words.end.get(like));
         }
 
         /** The STATEMENTS of the PROGRAM: the signs of their WORDS, and how far those of each go. */
@@ -2473,10 +2474,9 @@ public final class Bracketdesk {
 
         final Row outs = new Row(64);
         private final Row values = new Row(64);
-        // of each CALL whose BLOCK is being run (0 is the PROGRAM): its FUN, its NODE, its first value
+        // of each CALL whose BLOCK is being run (the first one is the PROGRAM): its FUN, and its NODE
         private final Row frameFun = new Row(MOST_CALLS + 1);
         private final Row frameCall = new Row(MOST_CALLS + 1);
-        private final Row frameBase = new Row(MOST_CALLS + 1);
         private final Row slots = new Row(64);
         int steps;
         boolean isCut;
@@ -2498,11 +2498,9 @@ public final class Bracketdesk {
             values.clear();
             frameFun.clear();
             frameCall.clear();
-            frameBase.clear();
-            slots.clear();
             steps = 0;
             isCut = false;
-            addFrame(reading, 0, 0, 0);
+            addFrame(reading, 0, 0);
             node = 0;
             way = INTO;
             for (int i = 0; i < MOST_MOVES && node != NONE && !isCut; i++) {
@@ -2516,10 +2514,9 @@ public final class Bracketdesk {
             }
         }
 
-        private void addFrame(Reading reading, int fun, int call, int base) {
+        private void addFrame(Reading reading, int fun, int call) {
             frameFun.add(fun);
             frameCall.add(call);
-            frameBase.add(base);
             int things = reading.names.kind.size();
             slots.cut((frameFun.size() - 1) * things);
             for (int i = 0; i < things; i++) {
@@ -2626,7 +2623,7 @@ public final class Bracketdesk {
             Names names = reading.names;
             int fun = names.node.get(names.meaning.get(reading.firstWord(node)));
             int base = values.size() - reading.tree.kids.get(node);
-            addFrame(reading, fun, node, base);
+            addFrame(reading, fun, node);
             int next = base;
             for (int t = 0; t < names.kind.size(); t++) {
                 if (names.kind.get(t) == PARAMETER && names.node.get(t) == fun) {
@@ -2641,7 +2638,6 @@ public final class Bracketdesk {
 
         /** Ends the CALL whose BLOCK is being run. */
         private void giveBack(int value) {
-            values.cut(frameBase.pop());
             values.add(value);
             frameFun.pop();
             node = frameCall.pop();

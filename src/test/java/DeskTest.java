@@ -86,6 +86,11 @@ public final class DeskTest {
         word.at(0, 1);
         word.key(36);
         expect.same("the words are others", word.changed(), 2);
+        Bracketdesk joined = Typist.desk("out ab;");
+        joined.save();
+        joined.at(0, 4);
+        joined.erase();
+        expect.same("as many signs in other words", joined.all() + joined.changed(), "outab;1");
     }
 
     private static void counting() {

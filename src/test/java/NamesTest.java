@@ -135,6 +135,9 @@ public final class NamesTest {
         expect.same("ahead of the function", offers(desk, false), "a");
         Bracketdesk open = Typist.desk("fun f(b) {let d = 1; /*c*/ ");
         expect.same("a block that lacks its end", offers(open, false), "d b");
+        expect.same("its parameter alone", offers(Typist.desk("fun f(b) {"), false), "b");
+        expect.same("of a function without name", offers(Typist.desk("fun (b) {"), false), "b");
+        expect.same("parameters of one name", offers(Typist.desk("fun f(b, c, b) {"), false), "b c");
         Bracketdesk none = Typist.desk("fun f(b) ");
         expect.same("a function that lacks its block", offers(none, false), "");
         expect.same("but it is there", offers(none, true), "f");

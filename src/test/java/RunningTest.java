@@ -58,6 +58,8 @@ public final class RunningTest {
         run("fun f(a) {let b = a; if a {f(a - 1);} out b;} f(2);", "0 1 2", 21);
         run("fun f(a) {fun g() {a = a + 1;} g(); g(); ret a;} out f(1);", "3", 14);
         run("fun f() {let b = 0; {let c = 0; b = b + 1; ret b;}} out f() + f();", "2", 16);
+        run("fun f() {g(); let b = 5; fun g() {out b;} g();} f(); f();", "0 5 0 5", 27);
+        run("g(); let b = 5; fun g() {out b;} g();", "0 5", 10);
         run("do 0 {} {let a = 1; out a;} fun f(a) {if a {let b = a; ret f(0);} {let b = 1; out b;}} f(2);", "1 1", 18);
     }
 
