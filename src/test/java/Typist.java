@@ -27,6 +27,55 @@ final class Typist {
         }
     }
 
+    /** A desk whose text has so many signs: a comment behind what is written fills it up. */
+    static Bracketdesk filled(String text, int size) {
+        Bracketdesk desk = desk(text + "/*");
+        for (int left = size - 2 - desk.desk(0); left > 0; left = size - 2 - desk.desk(0)) {
+            if (left >= PIECES[21].length()) {
+                desk.say(21);
+            } else {
+                desk.key(0);
+            }
+        }
+        desk.say(31);
+        return desk;
+    }
+
+    /** Just these cursors, by their places in the text. */
+    static void cursorsAt(Bracketdesk desk, int... places) {
+        for (int i = 0; i < places.length; i++) {
+            String ahead = desk.all().substring(0, places[i]);
+            int line = (int) ahead.chars().filter(c -> c == '\n').count();
+            int column = places[i] - ahead.lastIndexOf('\n') - 1;
+            if (i == 0) {
+                desk.at(line, column);
+            } else {
+                desk.also(line, column);
+            }
+        }
+    }
+
+    /** Makes new states until there are so many; the text stays, and so do the cursors. */
+    static void makeStates(Bracketdesk desk, int states) {
+        if ((states - desk.desk(11)) % 2 == 1) {
+            desk.key(36);
+            desk.undo();
+        }
+        desk.record(true);
+        for (int i = 0; i < 10 && desk.desk(11) < states; i++) {
+            desk.key(36);
+            desk.erase();
+        }
+        desk.record(false);
+        while (desk.desk(11) + 20 <= states) {
+            desk.play(1);
+        }
+        while (desk.desk(11) < states) {
+            desk.key(36);
+            desk.erase();
+        }
+    }
+
     private static int longestPiece(String text, int place) {
         int best = -1;
         for (int i = 0; i < PIECES.length; i++) {
